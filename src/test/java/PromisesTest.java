@@ -61,6 +61,7 @@ public final class PromisesTest {
         many();
         keepAndBack();
         orderOfFacts();
+        outermost();
         constants();
         System.out.println("promises: " + checks + " checks, " + wrong + " wrong");
         if (wrong != 0) {
@@ -163,6 +164,7 @@ public final class PromisesTest {
         due("stake 20", x.stake(0, 0, 0, 0), FULL);
         due("stake of no vein", x.stake(0, 4, 0, 0), NUMBER);
         due("work(0, 0)", x.work(0, 0), 20);
+        due("all twenty stand", x.of(19, 0, 0, 0), 9);
         x.withdraw(0);
         due("stake, one withdrawn", x.stake(0, 0, 0, 0), FULL);
         due("many(1)", x.many(1), 20);
@@ -817,6 +819,31 @@ public final class PromisesTest {
         x.view(6, 0, 10, 15);
         due("the later view holds", x.of(0, 1, 20, 20), 0);
         due("the early one till then", x.of(0, 1, 6, 20), 10);
+    }
+
+    private static void outermost() {
+        about = "the first and the last of all";
+        VeinCourt x = new VeinCourt();
+        x.rule(0, 1);
+        x.stake(0, 0, 0, 0);
+        x.stake(0, 0, 0, 9);
+        x.stake(0, 3, 59, 0);
+        x.stake(0, 3, 59, 9);
+        due("feet of 0", x.feet(0, 0, 0), 4);
+        due("contested of 0", x.contested(0, 0, 0), 2);
+        due("contested of 3", x.contested(3, 0, 0), 2);
+        x.dig(0, 0, 0, 5);
+        x.dig(0, 3, 59, 6);
+        due("dug of 0", x.dug(0, 0, 0), 264);
+        due("dug of 0 again", x.dug(0, 0, 0), 264);
+        due("dug of 9", x.dug(9, 0, 0), 0);
+        x.day(1);
+        x.withdraw(0);
+        x.withdraw(2);
+        due("many(2)", x.many(2), 2);
+        due("changed(1, 0, 1)", x.changed(1, 0, 1), 4);
+        due("feet of 9", x.feet(9, 1, 1), 4);
+        due("dug of 9", x.dug(9, 1, 1), 264);
     }
 
     private static void constants() {
