@@ -655,7 +655,8 @@ public final class VeinCourt {
         int countOwned(Claim asked) {
             int owned = 0;
             for (int foot = asked.first; foot <= asked.last; foot++) {
-                if (eldestOver(asked.vein, foot) == asked) {
+                Claim eldest = eldestOver(asked.vein, foot);
+                if (eldest != null && eldest.number == asked.number) {
                     owned++;
                 }
             }
