@@ -215,7 +215,7 @@ public final class PromisesTest {
     }
 
     private static void nicks() {
-        about = "terms, NICK";
+        about = "promise 6, terms NICK";
         VeinCourt x = courtOn(60);
         x.stake(0, 0, 30, 1);
         x.nick(10, 0, 2);
@@ -242,7 +242,7 @@ public final class PromisesTest {
     }
 
     private static void nicksOfOthers() {
-        about = "terms, NICK of others";
+        about = "promise 6, terms NICK of others";
         VeinCourt x = courtOn(60);
         x.stake(0, 0, 30, 1);
         x.nick(11, 0, 2);
@@ -265,7 +265,7 @@ public final class PromisesTest {
     }
 
     private static void taken() {
-        about = "terms, TAKEN";
+        about = "promise 6, terms TAKEN";
         VeinCourt x = courtOn(60);
         x.stake(0, 0, 30, 1);
         x.stake(1, 0, 30, 7);
@@ -401,7 +401,7 @@ public final class PromisesTest {
     }
 
     private static void factsFull() {
-        about = "FULL of 90 facts";
+        about = "promises 4 to 10, FULL of 90 facts";
         VeinCourt x = new VeinCourt();
         x.stake(0, 0, 30, 1);
         for (int i = 1; i < 90; i++) {
@@ -806,7 +806,7 @@ public final class PromisesTest {
     }
 
     private static void orderOfFacts() {
-        about = "terms, the order";
+        about = "promise 13, terms the order";
         VeinCourt x = courtOn(20);
         x.stake(5, 0, 30, 1);
         x.sell(9, 0, 2, 3, 24);
@@ -822,7 +822,7 @@ public final class PromisesTest {
     }
 
     private static void outermost() {
-        about = "the first and the last of all";
+        about = "promises 17 to 21, the first and the last of all";
         VeinCourt x = new VeinCourt();
         x.rule(0, 1);
         x.stake(0, 0, 0, 0);
